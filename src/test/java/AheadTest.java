@@ -6,6 +6,8 @@ public final class AheadTest {
         served();
         servedAtTheEnd();
         asItGoes();
+        asItGoesElsewhere();
+        waitsAhead();
         coming();
         comingWrongly();
         decree();
@@ -73,6 +75,36 @@ public final class AheadTest {
         y.go(1);
         CHECK.due("with coughs", y.served(0), -2);
         CHECK.due("with coughs", y.served(1), 1);
+    }
+
+    /** Each question goes without muttering and coughs. */
+    private static void asItGoesElsewhere() {
+        ThirdInLine x = Check.told("man a 9 0 90 8 0 0 0;man b 9 1 90 2 0 0 0;man c 9 2 90 2 0 0 1;man d 9 3 90 2 0 0 3;mutter 99;law need 1;");
+        x.stone(0, 1, 1);
+        x.stone(2, 2, 2);
+        CHECK.due("came", x.came(), 1 + 1 + 3 + 59);
+        x.join(0);
+        x.join(1);
+        x.cough(1);
+        CHECK.due("coming", x.coming(2, 2, 2), 0);
+        CHECK.due("gain", x.gain(1, 3), 2);
+        CHECK.due("rests", x.rest(2, 3, 9, 0), 0);
+        CHECK.due("best", x.best(1, 1, 4, 1), 3);
+        CHECK.due("fairest", x.fairest(1, 6, 1), 4);
+        CHECK.due("empty", x.empty(8, 1), 6);
+        CHECK.due("tried", x.tried(3, 0, 9), 4);
+    }
+
+    /** How long he waits is known ahead, too. */
+    private static void waitsAhead() {
+        ThirdInLine x = Check.told("man a 9 0 90 30 0 0 0;man b 9 1 10 2 0 0 5;well 99 5;law wear wait;");
+        x.served(1);
+        x.go(1);
+        x.join(1);
+        CHECK.due("worn by 0, 1, 2, 3, 4", x.served(1), 6);
+        x.undo();
+        x.go(4);
+        CHECK.due("comes late", x.served(1), 6);
     }
 
     private static ThirdInLine comers() {
@@ -213,6 +245,10 @@ public final class AheadTest {
     }
 
     private static void restsByWorth() {
+        // whoever comes late still stands behind four minutes, but to be served is better
+        ThirdInLine w = Check.told("man a 9 0 90 4 0 0 5;man b 9 1 90 30 0 0 5;");
+        CHECK.due("asked at once", w.rest(0, 1, 4, 1), 1);
+        allRests("served or standing", w, 0, 1, 4, 0, 1, 2, 3);
         // neither can be served: each stands at a place, whoever comes at 0 or 1 stands behind 2 minutes
         ThirdInLine x = Check.told("man a 9 0 90 30 0 0 5;man b 9 1 90 30 0 0 5;");
         allRests("places", x, 0, 1, 2, 0, 1);
@@ -335,6 +371,13 @@ public final class AheadTest {
         ThirdInLine z = Check.told("man a 9 0 90 20 0 0 0;man b 9 1 90 6 5 0 0;man c 9 0 1 4 5 0 1;");
         z.go(1);
         CHECK.due("nobody comes to it", z.gain(1, 9), 2);
+        // would d come to the second queue, c would be taxed there and worn out
+        ThirdInLine d = Check.told("man a 9 0 90 30 9 0 0;man b 9 1 90 8 9 0 0;man c 9 2 9 2 9 0 0;man d 9 3 90 2 9 0 1;"
+            + "power tax 2;levies 1;law levy 99;law wear 9*(coin=0);");
+        d.move(2, 7);
+        d.go(1);
+        d.move(2, 2);
+        CHECK.due("nobody comes to it", d.gain(1, 9), 6);
     }
 
     private static void empties(ThirdInLine x, int n, int many, int first) {

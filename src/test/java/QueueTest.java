@@ -25,6 +25,7 @@ public final class QueueTest {
         kneel();
         cough();
         move();
+        fullQueue();
         wasAndRuled();
         CHECK.end("QueueTest");
     }
@@ -144,11 +145,11 @@ public final class QueueTest {
         String million = "(9999+1)*(99+1)";
         String billions = "(9999+1)*(9999+1)*(9999+1)";
         String[] texts = {"0", "9999", "age", "far", "bucket", "coin", "place", "wait", "1-2-3", "8/4/2", "2+3*4", "(2+3)*4", "2*3-4*5", "7/2",
-            "(0-7)/2", "7/(0-2)", "(0-7)/(0-2)", "1<2", "2<2", "2<=2", "3<=2", "2=2", "2=3", "2<>2", "2<>3", "2>=2", "1>=2", "2>2", "3>2",
+            "(0-7)/2", "7/(0-2)", "(0-7)/(0-2)", "1<2", "2<2", "2<=2", "3<=2", "2=2", "2=3", "2<>2", "2<>3", "3<>2", "2>=2", "1>=2", "2>2", "3>2",
             "not 0", "not 7", "not not 7", "not(0-1)", "2 and 3", "2 and 0", "0 and 2", "0 or 0", "0 or 5", "5 or 0", "1 or 1 and 0",
             "0 and 0 or 1", "not 1 or 1", "not(1 or 1)", "not 0 and 0", "not 1<2", "not 5=0", "1+1<3", "(1<2)=1",
             "1<2 and 2<1 or 3", "10-2*3=4 and 7", "0-5", "age-far", "1>0-1"};
-        long[] values = {0, 9999, 5, 6, 30, 9, 0, 1, -4, 1, 14, 20, -14, 3, -3, -3, 3, 1, 0, 1, 0, 1, 0, 0, 1, 1, 0, 0, 1, 1, 0, 1, 0, 1, 0, 0, 0, 1,
+        long[] values = {0, 9999, 5, 6, 30, 9, 0, 1, -4, 1, 14, 20, -14, 3, -3, -3, 3, 1, 0, 1, 0, 1, 0, 0, 1, 1, 1, 0, 0, 1, 1, 0, 1, 0, 1, 0, 0, 0, 1,
             1, 1, 1, 1, 0, 0, 0, 1, 1, 1, 1, 1, -5, -1, 1};
         CHECK.due("as many values as texts", values.length, texts.length);
         for (int i = 0; i < Math.min(texts.length, values.length); i++) {
@@ -178,6 +179,11 @@ public final class QueueTest {
         value("(" + million + "+1)*(" + million + ")", none);
         value("(0-" + million + "-1)*(" + million + ")", none);
         value("9999*9999*9999", 999700029999L);
+        // these would be 0 in 64 bits
+        value("(256*256*256*256)*(256*256*256*256)", none);
+        value("(256*256*256*256)*(0-256*256*256*256)", none);
+        value("(0-256*256*256*256)*(256*256*256*256)", none);
+        value("(0-256*256*256*256)*(0-256*256*256*256)", none);
     }
 
     private static void goEdges() {
@@ -260,6 +266,8 @@ public final class QueueTest {
         coughing("law need coin-1;", true, 1, 2, 3);
         coughing("law need age+far-7;", false, 1);
         coughing("law need bucket/10;", false, 1, 2);
+        coughing("law need far+1;", true, 1);
+        coughing("law need age-far-7;", false, 1);
     }
 
     private static void water() {
@@ -297,6 +305,11 @@ public final class QueueTest {
 
     private static void levies() {
         taxed("", 4, 8, 101);
+        ThirdInLine ten = Check.told("man a 9 1 90 30 50 0 0;man b 8 2 90 30 50 0 0;well 9 1;power tax 0;");
+        ten.go(10);
+        CHECK.due("levied at 0", ten.look(1, 4), 49);
+        ten.go(1);
+        CHECK.due("and every ten minutes", ten.look(1, 4), 48);
         taxed("power tax 0;", 7, 8, 98);
         taxed("power tax 3;", 5, 9, 99);
         taxed("law levy 7;", 0, 2, 111);
@@ -530,6 +543,24 @@ public final class QueueTest {
         CHECK.due("crown", x.holder(0), 1);
     }
 
+    private static void fullQueue() {
+        StringBuilder men = new StringBuilder();
+        for (char c = 'a'; c <= 'h'; c++) {
+            men.append("man ").append(c).append(" 9 ").append(c - 'a').append(" 90 30 9 0 0;");
+        }
+        ThirdInLine x = Check.told(men + "power tax 7;law levy 2;well 99 1;");
+        x.go(1);
+        places("all", x, 0, 1, 2, 3, 4, 5, 6, 7);
+        CHECK.due("the last one takes", x.look(7, 4), 23);
+        CHECK.due("stands 7", x.holder(2), 7);
+        x.swap(0, 7, 0);
+        x.out(3);
+        places("seven", x, 7, 1, 2, 4, 5, 6, 0);
+        x.out(7);
+        x.out(0);
+        places("five", x, 1, 2, 4, 5, 6);
+    }
+
     private static void wasAndRuled() {
         ThirdInLine x = Check.told("man a 9 0 90 2 9 0 1;man b 9 1 90 8 9 0 1;man c 9 1 90 8 9 0 2;");
         CHECK.due("none gone by", x.was(0, 0), -1);
@@ -558,6 +589,9 @@ public final class QueueTest {
         CHECK.due("no man", x.ruled(-1, 0), -1);
         CHECK.due("no power", x.ruled(0, 3), -1);
         CHECK.due("no power", x.ruled(0, -1), -1);
+        ThirdInLine y = Check.told("man a 9 0 90 30 9 0 0;");
+        y.go(2);
+        CHECK.due("from minute 0 on", y.ruled(0, 0), 2);
         x.go(116);
         CHECK.due("the last one", x.was(0, 119), -2);
         CHECK.due("none behind", x.was(0, 120), -1);

@@ -133,6 +133,13 @@ public final class StonesTest {
         CHECK.due("known by 2", x.came(), 4);
         x.known(-1);
         CHECK.due("by all: 4 no longer counts, so 3 does, so the second is known", x.came(), 62);
+        ThirdInLine y = Check.told(TWO);
+        y.stone(2, 0, 1);
+        y.stone(1, 0, 1);
+        y.known(1);
+        CHECK.due("the first one alone", y.came(), 62);
+        y.known(2);
+        CHECK.due("both", y.came(), 2);
     }
 
     private static void waysFromTheTextOn() {
@@ -172,6 +179,15 @@ public final class StonesTest {
         CHECK.due("what 2, no so many", x.one(999, 2), -1);
         Check.text(x, "man a 9 0 90 4 0 0 0;");
         CHECK.due("of the text of now", x.came(), 60);
+        StringBuilder eight = new StringBuilder();
+        for (char c = 'a'; c <= 'h'; c++) {
+            eight.append("man ").append(c).append(" 9 0 90 4 0 0 0;");
+        }
+        ThirdInLine y = Check.told(eight.toString());
+        CHECK.due("all ways of eight", y.came(), 480);
+        CHECK.due("the last one's man", y.one(479, 0), 7);
+        CHECK.due("the last one's minute", y.one(479, 1), 59);
+        CHECK.due("no more", y.one(480, 1), -2);
         CHECK.due("none of it", new ThirdInLine().one(0, 0), -2);
     }
 }

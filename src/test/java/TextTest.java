@@ -9,6 +9,7 @@ public final class TextTest {
         textTakesTheTape();
         goodTexts();
         textStartsAnew();
+        textsOneByOne();
         tokensThatCantStand();
         tokensThatCantStandInLaws();
         tooMuch();
@@ -127,6 +128,43 @@ public final class TextTest {
         CHECK.due("to come", x.look(0, 6), 0);
         CHECK.due("bucket", x.look(0, 3), 0);
         CHECK.due("patience", x.look(0, 2), 6);
+    }
+
+    /** A text with all of it, then one with nothing, then all of it again, with faults between. */
+    private static void textsOneByOne() {
+        String all = "man a 9 0 9 9 9 9 0;man b 9 1 9 9 5 9 0;guard a b;power crown 4;power judge 5;power tax 0;well 50 3;levies 3;ear 5;"
+            + "mutter 99;seed 9;law levy 2+2;law wear 3;law need 5;";
+        ThirdInLine x = Check.told(all);
+        for (int i = 0; i < 4; i++) {
+            x.go(1);
+            x.join(1);
+            x.kneel(0, 9);
+            x.cough(0);
+            CHECK.due("nothing is told", x.text(0), 0);
+            int[] want = {0, 0, 0, 0, 0, 0, 200, 0, 0, 0, 0, 0, 1, 2, 0};
+            for (int what = 0; what < want.length; what++) {
+                CHECK.due("count of nothing " + what, x.count(what), want[what]);
+            }
+            if (i % 2 == 0) {
+                CHECK.due("a fault between", Check.text(x, all + "!"), -1);
+            }
+            String men = "man a 9 0 9 9 9 9 0;man c 9 1 9 9 5 9 0;man d 9 1 9 9 5 9 0;";
+            CHECK.due("three men", Check.text(x, men), 3);
+            CHECK.due("nobody guards", x.look(0, 10), -1);
+            CHECK.due("doesn't kneel", x.look(0, 8), 0);
+            CHECK.due("all coin", x.count(7), 19);
+            x.go(1);
+            CHECK.due("no laws", x.law(0, 0), Long.MIN_VALUE);
+            CHECK.due("no laws", x.law(1, 0), Long.MIN_VALUE);
+            CHECK.due("no laws", x.law(2, 0), Long.MIN_VALUE);
+            CHECK.due("rate as without", x.look(0, 3), 2);
+            CHECK.due("wear as without", x.look(1, 2), 8);
+            CHECK.due("no muttering", x.count(3), 3);
+            CHECK.due("tax as without", x.look(0, 4), 8);
+            CHECK.due("ear, need as without", x.coup(), 6);
+            CHECK.due("all again", Check.text(x, all), 14);
+            CHECK.due("knots", x.count(1), 5);
+        }
     }
 
     /** The fault's place is where ^ stands. */
