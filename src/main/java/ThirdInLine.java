@@ -96,8 +96,6 @@ public final class ThirdInLine {
     private static final int BY = 41;
 
     private final Reader reader = new Reader();
-    private int faultKind = 0;
-    private int faultPlace = NONE;
     private Told told = new Told();
     private Told spare = new Told();
     private final Queue now = new Queue();
@@ -130,10 +128,7 @@ public final class ThirdInLine {
             return LACKING;
         }
         reader.tokens.many = 0;
-        boolean read = reader.read(n, spare);
-        faultKind = reader.fault;
-        faultPlace = reader.place;
-        if (!read) {
+        if (!reader.read(n, spare)) {
             return NONE;
         }
         Told former = told;
@@ -148,8 +143,8 @@ public final class ThirdInLine {
 
     public int fault(int what) {
         switch (what) {
-            case 0: return faultKind;
-            case 1: return faultPlace;
+            case 0: return reader.fault;
+            case 1: return reader.place;
             default: return NONE;
         }
     }
@@ -754,9 +749,9 @@ public final class ThirdInLine {
         private Told told;
         private Law law;
         /** The words, as bits, that may stand once and did. */
-        private int heard;
-        int fault;
-        int place;
+        private int heard = 0;
+        int fault = 0;
+        int place = NONE;
 
         boolean read(int length, Told into) {
             told = into;
