@@ -14,6 +14,7 @@ public final class AheadEdgeTest {
         servedOfNobody();
         servedByTheLastMinute();
         servedOrWas();
+        servedByHowLongHeWaits();
         comingOfNobody();
         comingToEachPlace();
         comingByMinutes();
@@ -96,6 +97,19 @@ public final class AheadEdgeTest {
         ThirdInLine y = standing(1, "");
         y.out(0);
         CHECK.due("who is out never", y.served(0), -2);
+    }
+
+    /** As told b comes at 5; joined at 1 he is worn by 0, 1, 2, 3 and so OUT in 4, ahead of a's being SERVED in 5. */
+    private static void servedByHowLongHeWaits() {
+        ThirdInLine x = Check.told("man a 9 0 90 30 0 0 0;man b 9 1 5 2 0 0 5;well 99 5;law wear wait;");
+        CHECK.due("comes at 5", x.served(1), 6);
+        x.go(1);
+        x.join(1);
+        CHECK.due("joined at 1", x.served(1), -2);
+        CHECK.due("as it goes alike", x.tried(0, 0, 9), 1);
+        CHECK.due("no longer there at 4", x.best(1, 1, 9, 1), 3);
+        x.undo();
+        CHECK.due("comes at 5 again", x.served(1), 6);
     }
 
     private static void comingOfNobody() {

@@ -32,7 +32,9 @@ public final class MinuteEdgeTest {
         mutterLeavesOne();
         mutterNever();
         numbersByBits();
+        numbersAreTold();
         valuesAtTheEdges();
+        productsBeyondALong();
         divisionIsCut();
         bothSidesAreWorkedOut();
         namesOfNeed();
@@ -427,6 +429,19 @@ public final class MinuteEdgeTest {
         }
     }
 
+    /** What is told of a number is that by 65536: of each seed the first one is met from both sides. */
+    private static void numbersAreTold() {
+        for (int seed = 0; seed < 400; seed++) {
+            long number = (seed * 250L * 1103515245L + 12345L) % (1L << 31);
+            int told = (int) (number >> 16) % 100;
+            for (int mutter = Math.max(1, told); mutter <= Math.min(99, told + 1); mutter++) {
+                ThirdInLine x = Check.told("man a 9 0 90 30 0 0 0;man b 9 1 90 30 0 0 0;mutter " + mutter + ";seed " + seed * 250 + ";");
+                x.go(1);
+                CHECK.due("seed " + seed * 250 + " tells " + told + ", mutter " + mutter, x.count(3), told < mutter ? 1 : 2);
+            }
+        }
+    }
+
     private static void value(String e, long want) {
         ThirdInLine x = Check.told("man a 9 1 90 30 7 0 0;well 0 1;law levy " + e + ";law wear " + (e.length() < 30 ? e : "1") + ";");
         x.join(0);
@@ -461,6 +476,18 @@ public final class MinuteEdgeTest {
         value("9999", 9999);
         value("0", 0);
         value("0-0", 0);
+    }
+
+    /** Products that would be 0 in 64 bits. */
+    private static void productsBeyondALong() {
+        String[] ones = {"4096*4096*4096", "4096*4096*256", "8192*8192*8192", "4096*4096*4096*8", "4096*4096*8"};
+        String[] others = {"4096*4096*16", "4096*4096*256", "8192*4096", "4096*4096*2", "8192*8192*8192"};
+        for (int i = 0; i < ones.length; i++) {
+            value("(" + ones[i] + ")*(" + others[i] + ")", Long.MIN_VALUE);
+            value("(0-" + ones[i] + ")*(" + others[i] + ")", Long.MIN_VALUE);
+            value("(" + ones[i] + ")*(0-" + others[i] + ")", Long.MIN_VALUE);
+            value("(0-" + ones[i] + ")*(0-" + others[i] + ")", Long.MIN_VALUE);
+        }
     }
 
     private static void divisionIsCut() {

@@ -27,6 +27,7 @@ public final class TextEdgeTest {
         textLeavesNothingToUndo();
         textPutsPowersBack();
         textDrawsFromTheSeed();
+        textForgetsEachLine();
         faultOfNoText();
         faultOfTheLatest();
         faultOfAnotherWhat();
@@ -253,6 +254,28 @@ public final class TextEdgeTest {
         Check.text(x, AGAIN + "mutter 1;");
         x.go(1);
         CHECK.due("0 is below 1", x.count(3), 1);
+    }
+
+    /** What a LINE told is as without it by the next text that hasn't that LINE, whichever came ahead. */
+    private static void textForgetsEachLine() {
+        String all = "man a 9 0 90 30 50 1 0;man b 9 1 90 30 50 1 0;man c 9 2 90 30 50 1 0;guard b a;power crown 5;power judge 5;power tax 5;well 7 7;levies 7;ear 1;"
+            + "mutter 99;seed 77;law levy 9;law wear 9;law need 9;";
+        String some = "man a 9 0 90 30 50 1 0;man b 9 1 90 30 50 1 0;man c 9 2 90 30 50 1 0;man d 9 3 90 30 50 1 0;";
+        ThirdInLine x = Check.told(all);
+        for (int i = 0; i < 3; i++) {
+            CHECK.due("all of it", Check.text(x, all), 15);
+            CHECK.due("all of it", Check.text(x, all), 15);
+            CHECK.due("men and muttering", Check.text(x, some + "mutter 1;"), 5);
+            x.go(2);
+            CHECK.due("seed 0: 0 is below 1, 68 isn't", x.count(3), 3);
+            CHECK.due("ear 3, need 2", x.coup(), 6);
+            CHECK.due("rate 2", x.look(0, 3), 4);
+            CHECK.due("water 200", x.count(6), 196);
+            CHECK.due("tax at 2, levy 1 of three, at 0 alone", x.look(2, 4), 53);
+            CHECK.due("wear 1", x.look(1, 2), 88);
+            CHECK.due("crown at 0", x.count(11), 0);
+            CHECK.due("nobody guards", x.look(1, 10), -1);
+        }
     }
 
     private static void faultOfNoText() {

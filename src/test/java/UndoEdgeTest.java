@@ -29,6 +29,7 @@ public final class UndoEdgeTest {
         imageLeavesTheTape();
         imageLeavesTheFault();
         imageKeepsPowers();
+        imageKeepsWhenOneJoined();
         imageKeepsNumbers();
         countOfAnotherWhat();
         countsOfNothing();
@@ -363,6 +364,28 @@ public final class UndoEdgeTest {
         CHECK.due("crown", x.count(11), 7);
         CHECK.due("judge", x.count(12), 1);
         CHECK.due("tax", x.count(13), 2);
+    }
+
+    /** c joins at 1, which is undone once the image is kept, and joins again at 2. */
+    private static void imageKeepsWhenOneJoined() {
+        ThirdInLine x = begun();
+        x.join(2);
+        x.keep();
+        x.undo();
+        x.go(1);
+        x.join(2);
+        x.back();
+        CHECK.due("just joined", x.look(2, 7), 0);
+        x.go(2);
+        CHECK.due("two minutes", x.look(2, 7), 2);
+        // a steps out at 3 behind the image; in it he stands, and steps out at 1
+        ThirdInLine y = begun();
+        y.keep();
+        y.go(2);
+        y.out(0);
+        y.back();
+        y.out(0);
+        CHECK.due("one minute till then", y.look(0, 7), 1);
     }
 
     /** From seed 0 on the numbers modulo 100 are 0 68 88 17: below 69 in minutes 0, 1 and 3. */
