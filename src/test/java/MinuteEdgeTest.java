@@ -394,6 +394,9 @@ public final class MinuteEdgeTest {
         x.go(1);
         CHECK.due("of two the last one is out", x.look(1, 6), 3);
         CHECK.due("the first stays", x.look(0, 6), 1);
+        CHECK.due("he waited till then", x.look(1, 7), 0);
+        x.go(5);
+        CHECK.due("till then, and no longer", x.look(1, 7), 0);
         ThirdInLine y = Check.told("man a 9 0 90 1 0 0 0;man b 9 1 90 30 0 0 0;mutter 99;");
         y.go(1);
         CHECK.due("a was served ahead of it: b is alone", y.look(1, 6), 1);
@@ -480,9 +483,12 @@ public final class MinuteEdgeTest {
 
     /** Products that would be 0 in 64 bits. */
     private static void productsBeyondALong() {
-        String[] ones = {"4096*4096*4096", "4096*4096*256", "8192*8192*8192", "4096*4096*4096*8", "4096*4096*8"};
+        String[] ones = {"4096*4096*4096", "4096*4096*256", "8192*8192*8192", "4096*4096*4096*8", "4096*4096*2"};
         String[] others = {"4096*4096*16", "4096*4096*256", "8192*4096", "4096*4096*2", "8192*8192*8192"};
+        int[] bits = {36, 32, 39, 39, 25};
         for (int i = 0; i < ones.length; i++) {
+            value(ones[i], 1L << bits[i]);
+            value(others[i], 1L << 64 - bits[i]);
             value("(" + ones[i] + ")*(" + others[i] + ")", Long.MIN_VALUE);
             value("(0-" + ones[i] + ")*(" + others[i] + ")", Long.MIN_VALUE);
             value("(" + ones[i] + ")*(0-" + others[i] + ")", Long.MIN_VALUE);

@@ -27,6 +27,7 @@ public final class StonesEdgeTest {
         cameOfAll();
         cameInTheLastMinute();
         cameAtThePlaceBehindAll();
+        cameByPowersAsTold();
         cameNever();
         oneByNumber();
         oneOfAnotherWhat();
@@ -268,6 +269,28 @@ public final class StonesEdgeTest {
         CHECK.due("nobody at 7 is always so", x.came(), 60 + 59);
         x.stone(0, 7, 0);
         CHECK.due("somebody at 7 never", x.came(), 0);
+    }
+
+    /**
+     * As told b takes the tax and is worn by it: OUT in 2, or at 1 behind 2 if one of them comes at 1 or 2. Were the
+     * tax a's, b would stay.
+     */
+    private static void cameByPowersAsTold() {
+        ThirdInLine x = Check.told("man a 9 0 90 30 9 0 0;man b 9 1 5 30 0 0 0;well 0 1;power tax 1;levies 1;law wear coin;");
+        x.stone(2, 1, -1);
+        CHECK.due("all but 1 and 2", x.came(), 2 * 58);
+        CHECK.due("a at 0", x.one(0, 1), 0);
+        CHECK.due("a at 3", x.one(1, 1), 3);
+        CHECK.due("b at 0", x.one(58, 1), 0);
+        ThirdInLine y = Check.told("man a 9 0 90 30 9 0 0;man b 9 1 5 30 0 0 0;well 0 1;power tax 1;levies 1;law wear coin;");
+        y.move(2, 0);
+        y.go(3);
+        CHECK.due("b stays now", y.stands(1), 1);
+        y.stone(2, 1, -1);
+        CHECK.due("as told all the same", y.came(), 2 * 58);
+        ThirdInLine z = Check.told("man a 9 0 90 30 9 0 0;man b 9 1 5 30 0 0 0;well 0 1;power tax 0;levies 1;law wear coin;");
+        z.stone(2, 1, -1);
+        CHECK.due("told otherwise", z.came(), 2 * 57);
     }
 
     private static void cameNever() {
