@@ -28,6 +28,7 @@ public final class MinuteEdgeTest {
         wearOfAllButTheFirst();
         patienceAtTheEdges();
         firstOfNowStays();
+        whoLeftHasNothing();
         mutterAtTheEdges();
         mutterLeavesOne();
         mutterNever();
@@ -443,6 +444,49 @@ public final class MinuteEdgeTest {
                 CHECK.due("seed " + seed * 250 + " tells " + told + ", mutter " + mutter, x.count(3), told < mutter ? 1 : 2);
             }
         }
+    }
+
+    private static void gone(String how, ThirdInLine x, int man, int state) {
+        CHECK.due(how + ": so", x.look(man, 6), state);
+        CHECK.due(how + ": no place", x.look(man, 5), -1);
+        CHECK.due(how + ": doesn't kneel", x.look(man, 8), 0);
+        CHECK.due(how + ": didn't cough", x.look(man, 9), 0);
+        CHECK.due(how + ": no coughs", x.count(14), 0);
+    }
+
+    /** Who is OUT or SERVED has no PLACE, doesn't kneel, didn't cough, however he left. */
+    private static void whoLeftHasNothing() {
+        ThirdInLine served = Check.told("man a 9 0 90 4 0 0 0;man b 9 1 90 30 0 0 0;");
+        served.go(1);
+        served.kneel(0, 20);
+        served.cough(0);
+        served.go(1);
+        gone("served", served, 0, 2);
+        ThirdInLine stepped = standing(2, "");
+        stepped.kneel(1, 20);
+        stepped.cough(1);
+        stepped.out(1);
+        gone("stepped out", stepped, 1, 3);
+        ThirdInLine coughed = standing(2, "");
+        coughed.kneel(0, 20);
+        coughed.cough(0);
+        coughed.cough(1);
+        coughed.go(1);
+        gone("coughed out", coughed, 0, 3);
+        ThirdInLine worn = Check.told("man a 9 0 90 2 0 0 0;man b 9 1 1 30 0 0 0;man c 9 2 90 30 0 0 0;law need 9;");
+        worn.go(1);
+        worn.swap(1, 2, 0);
+        worn.kneel(1, 20);
+        worn.cough(1);
+        worn.go(1);
+        gone("worn out", worn, 1, 3);
+        ThirdInLine muttered = Check.told("man a 9 0 90 30 0 0 1;man b 9 1 90 30 0 0 1;mutter 1;law need 9;");
+        muttered.join(0);
+        muttered.join(1);
+        muttered.kneel(1, 20);
+        muttered.cough(1);
+        muttered.go(1);
+        gone("muttered out", muttered, 1, 3);
     }
 
     private static void value(String e, long want) {
