@@ -4,6 +4,9 @@ import java.util.Random;
 /** Drawn texts and calls: the class must answer as the Oracle does. Arguments: first seed, how many runs. */
 public final class FuzzTest {
     private static final long THROWS = 7000000000L;
+    private static final int MOST_CALLS = 512;
+    /** A text of 700 bytes, with what is asked of its fault, is the most that is called at once. */
+    private static final int DEAREST = 38;
     private static final int[] EDGES = {0, 1, -1, 2, -2, 5, 7, 8, 9, 10, 15, 19, 20, 21, 23, 24, 29, 30, 31, 58, 59, 60, 61,
         99, 100, 118, 119, 120, 121, 2147483647, -2147483648};
     private static final String[] TOKENS = ("man guard power well levies ear mutter seed law crown judge tax levy wear need yes "
@@ -15,6 +18,8 @@ public final class FuzzTest {
     private final StringBuilder trace = new StringBuilder();
     private ThirdInLine x;
     private Oracle o;
+    /** How many calls the object has had: what it answers behind 512 is free. */
+    private int had = 0;
 
     private FuzzTest(long seed) {
         random = new Random(seed);
@@ -31,14 +36,13 @@ public final class FuzzTest {
     }
 
     private boolean run() {
-        x = new ThirdInLine();
-        o = new Oracle();
-        boolean right = true;
-        tell(sheet());
+        begin();
+        boolean right = tell(sheet());
         int calls = 40 + random.nextInt(400);
-        for (int i = 0; i < calls && right; i++) {
+        for (int i = 0; i < calls && right && had < MOST_CALLS - DEAREST; i++) {
             right = random.nextInt(60) == 0 ? tell(random.nextBoolean() ? sheet() : spoiled(sheet())) : call();
         }
+        begin();
         for (int i = 0; i < 6 && right; i++) {
             right = tell(spoiled(sheet()));
         }
@@ -48,7 +52,15 @@ public final class FuzzTest {
         return right;
     }
 
+    private void begin() {
+        x = new ThirdInLine();
+        o = new Oracle();
+        had = 0;
+        trace.append("a new object\n");
+    }
+
     private boolean same(String what, long got, long want) {
+        had++;
         trace.append(what).append(" -> ").append(want).append('\n');
         check.due(what, got, want);
         return got == want;

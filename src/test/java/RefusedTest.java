@@ -93,7 +93,7 @@ public final class RefusedTest {
     private static void faulty(ThirdInLine x, String text) {
         int length = 700;
         while (length > 0 && x.text(length) == -2) {
-            length--;
+            length -= 20;
         }
         CHECK.due("a fault of what was on the tape", x.fault(0) > 0, true);
         byte[] bytes = Check.bytes(text);
@@ -147,7 +147,8 @@ public final class RefusedTest {
         for (int what = 0; what < 15; what++) {
             put.accept(x.count(what));
         }
-        for (int man = 0; man < x.count(0); man++) {
+        int men = x.count(0);
+        for (int man = 0; man < men; man++) {
             for (int what = 0; what < 11; what++) {
                 put.accept(x.look(man, what));
             }
@@ -157,14 +158,12 @@ public final class RefusedTest {
     private static void undoAll(ThirdInLine x, Consumer<Object> put) {
         for (int i = 0; i < 21; i++) {
             put.accept(x.undo());
-            put.accept(x.count(3));
             put.accept(x.count(7));
             put.accept(x.count(11));
             put.accept(x.count(14));
-            for (int place = 0; place < 3; place++) {
-                put.accept(x.stands(place));
-                put.accept(looked(x, x.stands(place), 8));
-                put.accept(looked(x, x.stands(place), 4));
+            for (int man = 0; man < 3; man++) {
+                put.accept(looked(x, man, 5));
+                put.accept(looked(x, man, 8));
             }
         }
         countsAndLooks(x, put);

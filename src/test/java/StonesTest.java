@@ -89,6 +89,8 @@ public final class StonesTest {
         allWays("no stones", x, allOfA, allOfB);
         x.stone(0, 0, 0);
         allWays("a behind 0", x, new int[] {0, 0, 0}, allOfB);
+        x = Check.told(TWO);
+        x.stone(0, 0, 0);
         x.stone(3, 0, -1);
         allWays("nobody behind 3", x, new int[] {1, 4, 59});
         x.stone(6, 0, 1);

@@ -15,21 +15,21 @@ public final class UndoTest {
         CHECK.end("UndoTest");
     }
 
+    /** What can change, in few calls. */
     private static String state(ThirdInLine x) {
         StringBuilder s = new StringBuilder();
         for (int what = 0; what < 15; what++) {
             s.append(what == 10 ? 0 : x.count(what)).append(' ');
         }
-        for (int man = 0; man < x.count(0); man++) {
-            for (int what = 0; what < 11; what++) {
+        int men = x.count(0);
+        for (int man = 0; man < men; man++) {
+            for (int what = 2; what < 10; what++) {
                 s.append(x.look(man, what)).append(' ');
             }
-            s.append(x.served(man)).append(' ');
         }
-        for (int kind = 0; kind < 3; kind++) {
-            for (int minute = 0; minute < x.count(2); minute++) {
-                s.append(x.was(kind, minute)).append(' ');
-            }
+        int minutes = x.count(2);
+        for (int minute = Math.max(0, minutes - 2); minute < minutes; minute++) {
+            s.append(x.was(0, minute)).append(' ');
         }
         return s.toString();
     }
